@@ -1,0 +1,179 @@
+import java.lang.reflect.Method;
+import java.lang.reflect.Modifier;
+import java.util.Arrays;
+import java.util.HashMap;
+import java.util.Map;
+import java.util.Random;
+import java.util.TreeSet;
+
+/** Many runs of mixed calls, up to 512 on an object, each answer held against the model's. */
+public final class ModelTest {
+    private static final int RUNS = 6000;
+    private static final int CALLS = 512;
+    private static final String[] NAMES = {"node", "page", "list", "inherit", "of", "pages", "at", "about",
+        "kid", "mend", "told", "move", "copy", "remove", "label", "text", "name", "look", "balance", "count"};
+
+    /** How often each call of NAMES comes, by the kind of run. */
+    private static final int[][] WEIGHTS = {
+        // mixed
+        {6, 12, 8, 8, 8, 3, 5, 12, 8, 3, 5, 8, 5, 3, 4, 6, 5, 4, 1, 2},
+        // many items in few nodes: full lists, no room for copies
+        {4, 60, 20, 4, 4, 1, 2, 4, 6, 2, 6, 10, 20, 2, 1, 2, 1, 1, 1, 1},
+        // many rings and twins
+        {12, 8, 40, 6, 8, 3, 6, 12, 12, 8, 16, 6, 3, 2, 1, 2, 1, 1, 2, 1},
+        // deep trees, values, moves
+        {14, 10, 6, 20, 24, 1, 4, 6, 6, 3, 3, 20, 6, 4, 0, 1, 2, 2, 2, 1},
+        // labels and names
+        {3, 12, 1, 1, 1, 2, 2, 2, 1, 1, 1, 3, 2, 3, 24, 30, 40, 14, 1, 8},
+        // few pages: the only one, balanced again and again
+        {4, 4, 6, 4, 6, 3, 4, 6, 4, 5, 6, 6, 1, 12, 1, 3, 3, 3, 12, 2},
+    };
+
+    private static final Map<String, Method> CLASS = methodsOf(PageTree.class);
+    private static final Map<String, Method> MODEL = methodsOf(Model.class);
+    private static final Check CHECK = new Check();
+    private static final TreeSet<String> SEEN = new TreeSet<>();
+    private static Random random;
+
+    public static void main(String[] args) {
+        int runs = args.length > 0 ? Integer.parseInt(args[0]) : RUNS;
+        int from = args.length > 1 ? Integer.parseInt(args[1]) : 0;
+        for (int run = from; run < from + runs; run++) {
+            if (!agrees(run)) {
+                break;
+            }
+        }
+        if (args.length == 0) {
+            everyRefusalWasSeen();
+        }
+        CHECK.end();
+    }
+
+    private static boolean agrees(int run) {
+        random = new Random(run);
+        PageTree tree = new PageTree();
+        Model model = new Model();
+        int[] weights = WEIGHTS[run % WEIGHTS.length];
+        int sum = Arrays.stream(weights).sum();
+        for (int i = 0; i < CALLS; i++) {
+            int which = pick(weights, sum);
+            int[] a = arguments(which, model);
+            int want = call(MODEL.get(NAMES[which]), model, a);
+            int got = call(CLASS.get(NAMES[which]), tree, a);
+            SEEN.add(NAMES[which] + (want < 0 ? want : ""));
+            if (got != want) {
+                CHECK.due("run " + run + ", call " + i + ": " + NAMES[which] + Arrays.toString(a), got, want);
+                return false;
+            }
+        }
+        return true;
+    }
+
+    /** So that the runs are known to come to every refusal of the document. */
+    private static void everyRefusalWasSeen() {
+        String[] refusals = {"node-1", "node-4", "page-1", "page-4", "list-1", "list-4", "inherit-1",
+            "inherit-2", "of-1", "of-2", "at-1", "about-1", "about-2", "kid-1", "told-1", "move-1", "move-2",
+            "move-4", "copy-1", "copy-4", "remove-1", "remove-3", "label-2", "label-4", "text-1", "name-1",
+            "name-2", "name-3", "name-4", "look-1", "balance-3", "balance-4", "count-2"};
+        for (String refusal : refusals) {
+            CHECK.due("runs that come to " + refusal, SEEN.contains(refusal) ? 1 : 0, 1);
+        }
+        for (String name : NAMES) {
+            CHECK.due("runs that come to " + name, SEEN.contains(name) ? 1 : 0, 1);
+        }
+    }
+
+    private static int pick(int[] weights, int sum) {
+        int rest = random.nextInt(sum);
+        for (int i = 0; i < weights.length; i++) {
+            rest -= weights[i];
+            if (rest < 0) {
+                return i;
+            }
+        }
+        return 0;
+    }
+
+    /** Now and then far outside, else from one below the range to one above it. */
+    private static int around(int below, int above) {
+        int dice = random.nextInt(200);
+        if (dice == 0) {
+            return Integer.MAX_VALUE;
+        }
+        if (dice == 1) {
+            return Integer.MIN_VALUE;
+        }
+        int low = dice < 12 ? below - 1 : below;
+        int high = dice < 12 ? above + 1 : above;
+        return low + random.nextInt(Math.max(1, high - low + 1));
+    }
+
+    private static int anItem(Model model) {
+        return around(0, Math.max(0, model.count(0) - 1));
+    }
+
+    private static int aNode(Model model) {
+        if (model.count(0) == 0) {
+            return random.nextInt(4) == 0 ? around(-1, 0) : -1;
+        }
+        for (int i = 0; i < 20; i++) {
+            // The square has low numbers come more often, so that lists get full.
+            double part = random.nextDouble();
+            int item = (int) (part * part * model.count(0));
+            if (model.about(item, 0) == 0) {
+                return item;
+            }
+        }
+        return anItem(model);
+    }
+
+    private static int aPage(Model model) {
+        int pages = model.pages();
+        return pages == 0 || random.nextInt(12) == 0 ? anItem(model) : model.at(random.nextInt(pages));
+    }
+
+    private static int[] arguments(int which, Model model) {
+        int pages = model.pages();
+        return switch (NAMES[which]) {
+            case "node" -> new int[] {aNode(model), around(-1, 4)};
+            case "page" -> new int[] {aNode(model)};
+            case "list" -> new int[] {aNode(model), random.nextBoolean() ? anItem(model) : aNode(model)};
+            case "inherit" -> new int[] {anItem(model), around(0, 3), random.nextInt(5) == 0 ? -1 : around(0, 100000)};
+            case "of" -> new int[] {random.nextBoolean() ? aPage(model) : anItem(model), around(0, 3)};
+            case "at" -> new int[] {around(0, pages)};
+            case "about" -> new int[] {anItem(model), around(0, 4)};
+            case "kid" -> {
+                int node = aNode(model);
+                yield new int[] {node, around(0, Math.max(0, model.about(node, 2)))};
+            }
+            case "told" -> new int[] {random.nextInt(3) == 0 ? around(0, 110) : around(0, 6), around(0, 1)};
+            case "move" -> new int[] {aPage(model), around(0, Math.max(0, pages - 1))};
+            case "copy", "remove" -> new int[] {aPage(model)};
+            case "label" -> new int[] {random.nextBoolean() ? around(0, 24) : around(0, 199), around(0, 2),
+                random.nextBoolean() ? around(1, 60) : around(1, 1000)};
+            case "text" -> new int[] {around(0, Math.max(0, pages - 1)), around(0, 5)};
+            case "name" -> new int[] {random.nextInt(4) == 0 ? around(0, 9999) : around(0, 80), aPage(model)};
+            case "look" -> new int[] {around(0, 80)};
+            case "count" -> new int[] {around(0, 2)};
+            default -> new int[] {};
+        };
+    }
+
+    private static Map<String, Method> methodsOf(Class<?> type) {
+        Map<String, Method> methods = new HashMap<>();
+        for (Method method : type.getDeclaredMethods()) {
+            if (method.getReturnType() == int.class && !Modifier.isPrivate(method.getModifiers())) {
+                methods.put(method.getName(), method);
+            }
+        }
+        return methods;
+    }
+
+    private static int call(Method method, Object on, int[] a) {
+        try {
+            return (Integer) method.invoke(on, Arrays.stream(a).boxed().toArray());
+        } catch (ReflectiveOperationException e) {
+            throw new IllegalStateException(method + " " + Arrays.toString(a), e);
+        }
+    }
+}
