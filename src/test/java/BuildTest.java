@@ -105,6 +105,14 @@ public final class BuildTest {
         CHECK.due("about(200, 0)", tree.about(200, 0), -1);
         CHECK.due("list goes on", tree.list(199, 199), 1);
         CHECK.due("pages", tree.pages(), 193);
+        CHECK.due("kid(200, 0)", tree.kid(200, 0), -1);
+        CHECK.due("of(200, 0)", tree.of(200, 0), -1);
+        CHECK.due("inherit(200, 0, 0)", tree.inherit(200, 0, 0), -1);
+        CHECK.due("list(200, 0)", tree.list(200, 0), -1);
+        CHECK.due("list(199, 200)", tree.list(199, 200), -1);
+        CHECK.due("move(200, 0)", tree.move(200, 0), -1);
+        CHECK.due("remove(200)", tree.remove(200), -1);
+        CHECK.due("name(0, 200)", tree.name(0, 200), -1);
     }
 
     private static void listing() {
