@@ -1,8 +1,4 @@
-import java.lang.reflect.Method;
-import java.lang.reflect.Modifier;
 import java.util.Arrays;
-import java.util.HashMap;
-import java.util.Map;
 import java.util.Random;
 import java.util.TreeSet;
 
@@ -29,8 +25,9 @@ public final class ModelTest {
         {4, 4, 6, 4, 6, 3, 4, 6, 4, 5, 6, 6, 1, 12, 1, 3, 3, 3, 12, 2},
     };
 
-    private static final Map<String, Method> CLASS = methodsOf(PageTree.class);
-    private static final Map<String, Method> MODEL = methodsOf(Model.class);
+    /** For the first calls of every other run, so that it comes near 200 items and 40 kids. */
+    private static final int[] FILLING = {1, 40, 3, 2, 0, 0, 0, 0, 0, 0, 0, 0, 1, 0, 0, 0, 0, 0, 0, 0};
+
     private static final Check CHECK = new Check();
     private static final TreeSet<String> SEEN = new TreeSet<>();
     private static Random random;
@@ -51,22 +48,15 @@ public final class ModelTest {
 
     private static boolean agrees(int run) {
         random = new Random(run);
-        PageTree tree = new PageTree();
-        Model model = new Model();
+        Both both = new Both(CHECK, "run " + run);
         int[] weights = WEIGHTS[run % WEIGHTS.length];
-        int sum = Arrays.stream(weights).sum();
-        for (int i = 0; i < CALLS; i++) {
-            int which = pick(weights, sum);
-            int[] a = arguments(which, model);
-            int want = call(MODEL.get(NAMES[which]), model, a);
-            int got = call(CLASS.get(NAMES[which]), tree, a);
-            SEEN.add(NAMES[which] + (want < 0 ? want : ""));
-            if (got != want) {
-                CHECK.due("run " + run + ", call " + i + ": " + NAMES[which] + Arrays.toString(a), got, want);
-                return false;
-            }
+        int filling = run / WEIGHTS.length % 2 == 0 ? 0 : 100 + random.nextInt(140);
+        while (both.agree() && both.calls() < CALLS) {
+            int which = pick(both.calls() < filling ? FILLING : weights);
+            int answer = both.call(NAMES[which], arguments(which, both.model()));
+            SEEN.add(NAMES[which] + (answer < 0 ? answer : ""));
         }
-        return true;
+        return both.agree();
     }
 
     /** So that the runs are known to come to every refusal of the document. */
@@ -83,8 +73,8 @@ public final class ModelTest {
         }
     }
 
-    private static int pick(int[] weights, int sum) {
-        int rest = random.nextInt(sum);
+    private static int pick(int[] weights) {
+        int rest = random.nextInt(Arrays.stream(weights).sum());
         for (int i = 0; i < weights.length; i++) {
             rest -= weights[i];
             if (rest < 0) {
@@ -157,23 +147,5 @@ public final class ModelTest {
             case "count" -> new int[] {around(0, 2)};
             default -> new int[] {};
         };
-    }
-
-    private static Map<String, Method> methodsOf(Class<?> type) {
-        Map<String, Method> methods = new HashMap<>();
-        for (Method method : type.getDeclaredMethods()) {
-            if (method.getReturnType() == int.class && !Modifier.isPrivate(method.getModifiers())) {
-                methods.put(method.getName(), method);
-            }
-        }
-        return methods;
-    }
-
-    private static int call(Method method, Object on, int[] a) {
-        try {
-            return (Integer) method.invoke(on, Arrays.stream(a).boxed().toArray());
-        } catch (ReflectiveOperationException e) {
-            throw new IllegalStateException(method + " " + Arrays.toString(a), e);
-        }
     }
 }
