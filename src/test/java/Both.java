@@ -46,6 +46,11 @@ final class Both {
         return model;
     }
 
+    /** The model's answer, without an object beside it. */
+    static int invoke(Model model, Call call) {
+        return invoke(MODEL.get(call.name()), model, call.args());
+    }
+
     private static Map<String, Method> methodsOf(Class<?> type) {
         Map<String, Method> methods = new HashMap<>();
         for (Method method : type.getDeclaredMethods()) {

@@ -24,40 +24,6 @@ final class Edges {
     private List<Call> made;
     private PageTree tree;
 
-    private record Call(String name, int... args) {
-        int on(PageTree tree) {
-            return switch (name + args.length) {
-                case "node2" -> tree.node(args[0], args[1]);
-                case "page1" -> tree.page(args[0]);
-                case "list2" -> tree.list(args[0], args[1]);
-                case "inherit3" -> tree.inherit(args[0], args[1], args[2]);
-                case "of2" -> tree.of(args[0], args[1]);
-                case "pages0" -> tree.pages();
-                case "at1" -> tree.at(args[0]);
-                case "about2" -> tree.about(args[0], args[1]);
-                case "kid2" -> tree.kid(args[0], args[1]);
-                case "mend0" -> tree.mend();
-                case "told2" -> tree.told(args[0], args[1]);
-                case "move2" -> tree.move(args[0], args[1]);
-                case "copy1" -> tree.copy(args[0]);
-                case "remove1" -> tree.remove(args[0]);
-                case "label3" -> tree.label(args[0], args[1], args[2]);
-                case "text2" -> tree.text(args[0], args[1]);
-                case "name2" -> tree.name(args[0], args[1]);
-                case "look1" -> tree.look(args[0]);
-                case "balance0" -> tree.balance();
-                case "count1" -> tree.count(args[0]);
-                default -> throw new IllegalArgumentException("no such call: " + this);
-            };
-        }
-
-        @Override
-        public String toString() {
-            String inside = Arrays.toString(args);
-            return name + "(" + inside.substring(1, inside.length() - 1) + ")";
-        }
-    }
-
     /** A run on a new object; the sentence says what it is for. */
     void run(String sentence, String... parts) {
         this.sentence = sentence;
@@ -336,8 +302,8 @@ final class Edges {
             List<Call> all = new ArrayList<>(made);
             all.add(refused);
             for (Call call : all) {
-                if (call.name.equals("name")) {
-                    read("look", call.args[0]);
+                if (call.name().equals("name")) {
+                    read("look", call.args()[0]);
                 }
             }
         }
@@ -346,8 +312,8 @@ final class Edges {
         private void takeValuesOffNodes() {
             StringBuilder calls = new StringBuilder();
             for (Call call : made) {
-                if (call.name.equals("inherit") && nodes.contains(call.args[0])) {
-                    calls.append("inherit(" + call.args[0] + ", " + call.args[1] + ", -1) ");
+                if (call.name().equals("inherit") && nodes.contains(call.args()[0])) {
+                    calls.append("inherit(" + call.args()[0] + ", " + call.args()[1] + ", -1) ");
                 }
             }
             compareBehind(calls.toString());
