@@ -426,11 +426,11 @@ public final class PageTree {
         }
 
         void copyOwnValues(int giver, int taker) {
-            if (!isKnown(giver)) {
+            if (!isKnown(giver) || !isKnown(taker)) {
                 return;
             }
             for (int key = 0; key < KEYS; key++) {
-                setOwnValue(taker, key, ownValues[giver * KEYS + key]);
+                ownValues[taker * KEYS + key] = ownValues[giver * KEYS + key];
             }
         }
     }
